@@ -1270,6 +1270,7 @@ public final class StatementRules2 {
                 int index = names.find(tokens.name);
                 if (index < 0 || !names.isCaught(index)) {
                     fail(3, tokens.place);
+                    return;
                 }
                 code.add(DO_RETHROW, names.frameOf(index));
                 tokens.advance();
