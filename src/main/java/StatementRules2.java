@@ -587,7 +587,7 @@ public final class StatementRules2 {
         }
 
         void pop() {
-            count--;
+            count = Math.max(0, count - 1);
         }
 
         Open row(int index) {
