@@ -66,6 +66,16 @@ final class Checks {
         same("program(0) of '" + text + "'", x.program(0), StatementRules2.NO);
     }
 
+    /** The text has this fault where the mark @ stands, which is no part of it. */
+    void marked(String text, int fault) {
+        marked(new StatementRules2(), text, fault);
+    }
+
+    void marked(StatementRules2 x, String text, int fault) {
+        int place = text.indexOf('@');
+        faulty(x, text.substring(0, place) + text.substring(place + 1), fault, place);
+    }
+
     /** The text has no fault, and so many S. */
     void sound(String text, int statements) {
         sound(new StatementRules2(), text, statements);
