@@ -116,18 +116,16 @@ public final class DepthEdgesTest {
 
     /** What an earlier text left open is not open in the next one. */
     private static void behindFaults(Checks checks) {
-        StatementRules2 x = new StatementRules2();
         String[] faulty = {"{".repeat(20), "log " + "(".repeat(20), "log " + "-".repeat(20), "assert " + "!".repeat(20),
             "assert " + "[".repeat(20), "{".repeat(21), "log " + "-".repeat(21), "lock(m0){try{lock(m1){z=1;",
             "log switch(a){default->{log switch(b){default->{z=1;", "return 1;{log 1;}"};
         for (String text : faulty) {
-            Checks.put(x, text);
-            x.read();
+            StatementRules2 x = Checks.reading(text);
             checks.same("fault() of " + text + " is one", x.fault() == 0 ? 0 : 1, 1);
             checks.sound(x, within(20, ";"), 21);
             checks.sound(x, "log " + "-".repeat(20) + "1;", 1);
-            checks.runs(x, "while(true){lock(m0){try{throw e0 1;}catch(e0 x){break;}}}return 4;", 0, 0,
-                "take0 drop0 | returned 4");
+            checks.runs(x, "while(true){lock(m0){try{throw e0 1;}catch(e0 x){break;}}}log 4;", 0, 0,
+                "take0 drop0 log4 | ended");
             checks.faulty(x, "yield 1;", 5, 0);
         }
     }

@@ -231,12 +231,9 @@ public final class FaultEdgesTest {
 
     /** A KIND that is UNDER one caught ahead of it in this try, in the same CATCH too; and those not told. */
     private static void kinds(Checks checks) {
-        StatementRules2 x = new StatementRules2();
-        x.kind(1);
-        x.kind(4);
-        x.kind(0);
         int[] above = {-1, 0, 0, 0, 1, 4, 0};
         for (int first = 0; first < 7; first++) {
+            StatementRules2 x = withKinds();
             for (int second = 0; second < 7; second++) {
                 boolean under = false;
                 for (int up = second; up >= 0; up = above[up]) {
@@ -246,10 +243,20 @@ public final class FaultEdgesTest {
                 both(checks, x, "try{}catch(e" + first + "|", second, under);
             }
         }
+        StatementRules2 x = withKinds();
         checks.marked(x, "try{}catch(@e7 x){}", 3);
         checks.marked(x, "throw @e11 1;", 3);
         checks.sound(x, "try{try{}catch(e0 x){}}catch(e5 x){try{}catch(e0 y){}}catch(e4 x){}", 3);
         checks.marked(x, "try{}catch(e5 x){}catch(e6|e4 x){}catch(e2|@e5 x){}", 6);
+    }
+
+    /** 4 under 1, 5 under 4, 6 under 0. */
+    private static StatementRules2 withKinds() {
+        StatementRules2 x = new StatementRules2();
+        x.kind(1);
+        x.kind(4);
+        x.kind(0);
+        return x;
     }
 
     private static void both(Checks checks, StatementRules2 x, String before, int kind, boolean under) {

@@ -18,10 +18,8 @@ public final class FormulaEdgesTest {
     }
 
     private static void arithmetic(Checks checks) {
-        StatementRules2 x = new StatementRules2();
-        Checks.put(x, "log a+b;log a-b;log a*b;log -a;log - -a;log (a);");
-        x.read();
         for (int a : VALUES) {
+            StatementRules2 x = Checks.reading("log a+b;log a-b;log a*b;log -a;log - -a;log (a);");
             for (int b : VALUES) {
                 if (x.run(a, b) != 0) {
                     checks.same("run(" + a + ", " + b + ")", -9, 0);
@@ -35,10 +33,8 @@ public final class FormulaEdgesTest {
     }
 
     private static void divisions(Checks checks) {
-        StatementRules2 x = new StatementRules2();
-        Checks.put(x, "log a/b;log a%b;");
-        x.read();
         for (int a : VALUES) {
+            StatementRules2 x = Checks.reading("log a/b;log a%b;");
             for (int b : VALUES) {
                 String due = b == 0 ? "| threw e2 0" : "log" + a / b + " log" + a % b + " | ended";
                 checks.sameText("division of " + a + " by " + b, Checks.told(x, x.run(a, b)), due);
@@ -57,10 +53,9 @@ public final class FormulaEdgesTest {
     }
 
     private static void comparisons(Checks checks) {
-        StatementRules2 x = new StatementRules2();
-        Checks.put(x, "if(a<b)log 1;if(a<=b)log 2;if(a>b)log 3;if(a>=b)log 4;if(a==b)log 5;if(a!=b)log 6;");
-        x.read();
+        String text = "if(a<b)log 1;if(a<=b)log 2;if(a>b)log 3;if(a>=b)log 4;if(a==b)log 5;if(a!=b)log 6;";
         for (int a : VALUES) {
+            StatementRules2 x = Checks.reading(text);
             for (int b : VALUES) {
                 String due = a < b ? "log1 log2 log6 | ended" : a > b ? "log3 log4 log6 | ended"
                     : "log2 log4 log5 | ended";

@@ -9,6 +9,8 @@ public final class LimitsTest {
         manyResources(checks);
         manyCases(checks);
         manyCalls(checks);
+        manyReads(checks);
+        manySpentRuns(checks);
         checks.end();
     }
 
@@ -71,9 +73,54 @@ public final class LimitsTest {
 
     private static void manyCalls(Checks checks) {
         StatementRules2 x = Checks.reading("try{throw e1 a;}catch(e1 x){log x;}");
-        for (int i = 0; i < 400; i++) {
+        for (int i = 0; i < 200; i++) {
             x.run(i, 0);
             checks.same("run " + i, x.trace(0, 1), i);
         }
+    }
+
+    /** Nothing of an earlier text, sound or not, takes room from a later one. */
+    private static void manyReads(Checks checks) {
+        StatementRules2 x = new StatementRules2();
+        for (int i = 0; i < 4; i++) {
+            checks.sound(x, "for(;;)".repeat(120) + ";", 121);
+        }
+        checks.runs(x, "for(int i=0;i<2;i++)log i;", 0, 0, "log0 log1 | ended");
+        x = new StatementRules2();
+        String open = "switch(b){" + cases();
+        for (int i = 0; i < 5; i++) {
+            checks.faulty(x, open + "log z;", 3, open.length() + 4);
+        }
+        checks.runs(x, open + "log 1;}", 0, 20, "log1 | ended");
+        x = new StatementRules2();
+        for (int i = 0; i < 5; i++) {
+            checks.sound(x, "x:{" + "if(a<1)break x;".repeat(50) + "}", 102);
+        }
+        checks.runs(x, "while(true){if(a<1)break;}log 1;", 0, 0, "log1 | ended");
+    }
+
+    private static String cases() {
+        StringBuilder text = new StringBuilder();
+        for (int i = 0; text.length() < 800; i++) {
+            text.append("case ").append(i).append(':');
+        }
+        return text.toString();
+    }
+
+    /** Nothing of a run that was SPENT takes room from the next one. */
+    private static void manySpentRuns(Checks checks) {
+        String many = "r0,".repeat(60);
+        String text = "log 1-(2-(3-(4-(5-switch(0){default->{try with " + many + "r1{while(a<1);}yield 6;}}))));";
+        StatementRules2 x = Checks.reading(text);
+        for (int i = 0; i < 200; i++) {
+            checks.same("spent", x.run(0, 0), 3);
+        }
+        checks.same("the run behind them", x.run(1, 0), 0);
+        checks.same("its rows", x.ran(1), 123);
+        checks.same("opened first", x.trace(0, 0) * 10 + x.trace(0, 1), 10);
+        checks.same("opened last", x.trace(60, 0) * 10 + x.trace(60, 1), 11);
+        checks.same("closed first", x.trace(61, 0) * 10 + x.trace(61, 1), 21);
+        checks.same("closed last", x.trace(121, 0) * 10 + x.trace(121, 1), 20);
+        checks.same("what was logged", x.trace(122, 1), 1 - (2 - (3 - (4 - (5 - 6)))));
     }
 }

@@ -169,9 +169,10 @@ public final class RefusalsTest {
         checks.same("cut() above 900", x.cut(901), BAD);
         checks.same("read() of 900 bytes", x.read(), 900);
         for (int bytes = 881; bytes <= 899; bytes++) {
-            Checks.put(x, ";".repeat(bytes));
-            checks.same("feed() behind " + bytes, x.feed(-1, -1, -1, -1, -1), FULL);
-            checks.same("read() of " + bytes, x.read(), bytes);
+            StatementRules2 y = new StatementRules2();
+            Checks.put(y, ";".repeat(bytes));
+            checks.same("feed() behind " + bytes, y.feed(-1, -1, -1, -1, -1), FULL);
+            checks.same("read() of " + bytes, y.read(), bytes);
         }
         Checks.put(x, ";".repeat(880));
         checks.same("feed() behind 880", x.feed(0x3b3b3b3b, 0x3b3b3b3b, 0x3b3b3b3b, 0x3b3b3b3b, 0x3b3b3b3b), 900);

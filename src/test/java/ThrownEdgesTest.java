@@ -46,8 +46,8 @@ public final class ThrownEdgesTest {
     }
 
     private static void theFirstThatFits(Checks checks) {
-        StatementRules2 x = told();
         for (int thrown = 4; thrown < 12; thrown++) {
+            StatementRules2 x = told();
             for (int caught = 4; caught < 12; caught++) {
                 String text = "try{throw e" + thrown + " 7;}catch(e" + caught + " x){log x;}";
                 checks.runs(x, text, 0, 0, thrown >= caught ? "log7 | ended" : "| threw e" + thrown + " 7");
@@ -59,7 +59,7 @@ public final class ThrownEdgesTest {
             + "catch(e0 x){log 4;}";
         int[] due = {4, 1, 2, 3, 3, 3, 3, 3, 2, 2, 2, 1};
         for (int kind = 0; kind < 12; kind++) {
-            checks.runs(x, many.replace("?", "" + kind), 0, 0, "log" + due[kind] + " | ended");
+            checks.runs(told(), many.replace("?", "" + kind), 0, 0, "log" + due[kind] + " | ended");
         }
         checks.runs("try{throw e0 7;}catch(e1|e2|e3 x){log 1;}", 0, 0, "| threw e0 7");
         checks.runs("try{try{throw e1 7;}catch(e2 x){log 1;}}catch(e1 y){log y;}", 0, 0, "log7 | ended");

@@ -182,21 +182,27 @@ public final class TokenEdgesTest {
     }
 
     private static void kinds(Checks checks) {
-        StatementRules2 x = new StatementRules2();
-        for (int n = 4; n < 12; n++) {
-            x.kind(0);
-        }
         for (int n = 0; n < 12; n++) {
+            StatementRules2 x = withAllKinds();
             checks.runs(x, "throw e" + n + " 1;", 0, 0, "| threw e" + n + " 1");
             checks.runs(x, "try{throw e" + n + " 7;}catch(e" + n + " x){log x;}", 0, 0, "log7 | ended");
             checks.faulty(x, "int e" + n + "=1;", 2, 4);
         }
         String others = "e12 e13 e19 e20 e21 e31 e99 e00 e01 e09 e010 e011 e100 e110 e111 e e1a ea1 ee1 f1";
         for (String name : others.split(" ")) {
+            StatementRules2 x = withAllKinds();
             checks.sound(x, "int " + name + "=1;", 1);
             checks.faulty(x, "throw " + name + " 1;", 3, 6);
             checks.faulty(x, "try{}catch(" + name + " x){}", 2, 11);
         }
+    }
+
+    private static StatementRules2 withAllKinds() {
+        StatementRules2 x = new StatementRules2();
+        for (int n = 4; n < 12; n++) {
+            x.kind(0);
+        }
+        return x;
     }
 
     /** Bytes that cut() took away, or that an earlier text had, stand behind the last byte: they are no part. */
